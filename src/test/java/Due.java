@@ -1,0 +1,62 @@
+/** Counts the answers that are not as due, prints them, and ends the test. */
+final class Due {
+    private static int wrong = 0;
+    private static int asked = 0;
+
+    private Due() {
+    }
+
+    static void is(String call, long got, long want) {
+        asked++;
+        if (got != want) {
+            wrong++;
+            if (wrong <= 40) {
+                System.out.println(call + " answered " + got + ", due is " + want);
+            }
+        }
+    }
+
+    static void rows(String call, long[] got, long... want) {
+        is(call + " (how many)", got.length, want.length);
+        for (int i = 0; i < got.length && i < want.length; i++) {
+            is(call + " [" + i + "]", got[i], want[i]);
+        }
+    }
+
+    static int write(BeggarsChoose x, int s, String text) {
+        return write(x, s, 0, text);
+    }
+
+    static int write(BeggarsChoose x, int s, int sort, String text) {
+        int done = x.row(s, sort, text.length());
+        for (int i = 0; i < text.length(); i++) {
+            x.set(s, i, text.charAt(i));
+        }
+        return done;
+    }
+
+    /** A new city read from a text. */
+    static BeggarsChoose city(String text) {
+        BeggarsChoose x = new BeggarsChoose();
+        write(x, 7, text);
+        if (x.city(7) < 1) {
+            is("city(" + text + ") fault", x.fault(), -1);
+        }
+        return x;
+    }
+
+    static long[] picks(BeggarsChoose x) {
+        long[] picks = new long[x.status(1)];
+        for (int b = 0; b < picks.length; b++) {
+            picks[b] = x.picks(b);
+        }
+        return picks;
+    }
+
+    static void end() {
+        System.out.println(asked + " answers asked, " + wrong + " not as due");
+        if (wrong != 0) {
+            System.exit(1);
+        }
+    }
+}
