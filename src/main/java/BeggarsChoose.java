@@ -945,8 +945,8 @@ public final class BeggarsChoose {
             switch (b.rule) {
                 case BY_ANGER: return leastFace();
                 case BY_FEWEST: return fewestPicked();
-                case BLIND: return blindlyMet(b);
-                case FAITHFUL: return lastOf(b);
+                case BLIND: return openAt(blindPlace(b, countOpen()));
+                case FAITHFUL: return canStay(b) ? citizenAt(b.last) : greatestFace();
                 default: return greatestFace();
             }
         }
@@ -985,14 +985,14 @@ public final class BeggarsChoose {
             return chosen;
         }
 
-        private Citizen blindlyMet(Beggar b) {
-            int open = countOpen();
-            return open > 0 ? openAt((b.number + morning) % open) : null;
+        /** The place, among so many who don't hide, that he comes to blind by step; NONE: none is there. */
+        private int blindPlace(Beggar b, int open) {
+            return open > 0 ? (b.number + morning) % open : NONE;
         }
 
-        private Citizen lastOf(Beggar b) {
+        private boolean canStay(Beggar b) {
             Citizen last = citizenAt(b.last);
-            return last != null && last.isOpen() ? last : greatestFace();
+            return last != null && last.isOpen();
         }
 
         private int keptBits() {
@@ -1023,7 +1023,8 @@ public final class BeggarsChoose {
 
         /** A morning in truth: how many went unkept. */
         private int passMorning() {
-            int hungry = hungryMorning();
+            goBy();
+            int hungry = countUnkept();
             for (Citizen c : citizens) {
                 c.endMorning();
             }
@@ -1303,7 +1304,8 @@ public final class BeggarsChoose {
     /** Reads a city's text from a row of letters. */
     private static final class Reader {
         private final City city;
-        private Shelf text;
+        private final int[] signs = new int[MOST_ELEMENTS];
+        private int length;
         private int place;
         private int fault = NONE;
 
@@ -1313,14 +1315,17 @@ public final class BeggarsChoose {
 
         /** How many items it told to the city; NONE: a fault, and the city is told a part only. */
         private int read(Shelf row) {
-            text = row;
+            length = row.length;
+            for (int i = 0; i < signs.length; i++) {
+                signs[i] = row.getInt(i);
+            }
             place = 0;
             fault = NONE;
             for (int items = 1; items <= MOST_ELEMENTS; items++) {
                 if (!readItem()) {
                     return NONE;
                 }
-                if (place >= row.length) {
+                if (place >= length) {
                     return items;
                 }
                 if (!readSign(';')) {
@@ -1462,7 +1467,7 @@ public final class BeggarsChoose {
 
         /** Behind the end there is no sign at all, which is told by a number that no sign has. */
         private int signAt(int i) {
-            return text != null && text.hasElement(i) ? text.getInt(i) : NONE;
+            return i >= 0 && i < length && i < signs.length ? signs[i] : NONE;
         }
 
         private boolean failAt(int i) {
