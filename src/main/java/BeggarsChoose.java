@@ -716,6 +716,9 @@ public final class BeggarsChoose {
         }
 
         private void endMorning() {
+            if (!isHere) {
+                return;
+            }
             if (pickers == 0) {
                 wear = Math.max(0, wear - 2);
                 passed = Math.min(MOST_PASSED, passed + 1);

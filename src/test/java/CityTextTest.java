@@ -11,7 +11,7 @@ public final class CityTextTest {
     }
 
     private static void fault(String text, int place) {
-        BeggarsChoose x = new BeggarsChoose();
+        Run x = new Run();
         x.citizen(0, 1, 2, 3);
         x.beggar(1, 0);
         Due.write(x, 0, text);
@@ -24,7 +24,7 @@ public final class CityTextTest {
     }
 
     private static void refusals() {
-        BeggarsChoose x = new BeggarsChoose();
+        Run x = new Run();
         Due.write(x, 0, "citizen 7");
         Due.is("a fault", x.city(0), -6);
         Due.is("its place", x.fault(), 8);
@@ -41,7 +41,7 @@ public final class CityTextTest {
     }
 
     private static void reads() {
-        BeggarsChoose x = new BeggarsChoose();
+        Run x = new Run();
         Due.write(x, 0, "citizen 6 09 99 20;beggar 09 04;wear 00 05;hides 0");
         Due.is("items", x.city(0), 4);
         int[] want = {6, 9, 99, 20, 5, 0, 1};
@@ -111,7 +111,7 @@ public final class CityTextTest {
     }
 
     private static void room() {
-        BeggarsChoose x = new BeggarsChoose();
+        Run x = new Run();
         for (int i = 0; i < 5; i++) {
             x.citizen(0, 0, 0, 0);
             x.beggar(1, 0);
@@ -133,7 +133,7 @@ public final class CityTextTest {
         place(x, "citizen 9", 0);
     }
 
-    private static void place(BeggarsChoose x, String text, int place) {
+    private static void place(Run x, String text, int place) {
         Due.write(x, 0, text);
         Due.is("city of '" + text + "'", x.city(0), -6);
         Due.is("fault of '" + text + "'", x.fault(), place);
@@ -150,7 +150,7 @@ public final class CityTextTest {
         while (text.length() < 160) {
             text.append(';');
         }
-        BeggarsChoose x = new BeggarsChoose();
+        Run x = new Run();
         place(x, text.toString(), text.indexOf(";;") < 0 ? 160 : text.indexOf(";;") + 1);
         Due.write(x, 0, text.substring(0, 15 + 8 * (items - 1)));
         Due.is("items", x.city(0), items);
@@ -160,7 +160,7 @@ public final class CityTextTest {
     private static void longs() {
         String text = "citizen 1 2 3 4";
         for (int sort = 0; sort < 4; sort++) {
-            BeggarsChoose x = new BeggarsChoose();
+            Run x = new Run();
             Due.write(x, 0, sort, text);
             x.set(0, 0, 'c' + (1L << 40));
             Due.is("city of sort " + sort, x.city(0), 1);

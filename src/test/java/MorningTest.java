@@ -13,7 +13,7 @@ public final class MorningTest {
     }
 
     private static void rules() {
-        BeggarsChoose x = Due.city("citizen 0 0 9 5;citizen 0 0 9 9;citizen 0 0 9 9;citizen 0 0 9 5;beggar 1 0;beggar 1 1");
+        Run x = Due.city("citizen 0 0 9 5;citizen 0 0 9 9;citizen 0 0 9 9;citizen 0 0 9 5;beggar 1 0;beggar 1 1");
         Due.rows("the first of several", Due.picks(x), 1, 0);
         x.tell(0, 0, 1);
         x.tell(1, 0, 1);
@@ -28,7 +28,7 @@ public final class MorningTest {
     }
 
     private static void fewest() {
-        BeggarsChoose x = Due.city("citizen 0 0 0 5;citizen 0 0 0 9;citizen 0 0 0 9;"
+        Run x = Due.city("citizen 0 0 0 5;citizen 0 0 0 9;citizen 0 0 0 9;"
                 + "beggar 1 0;beggar 1 2;beggar 1 2;beggar 1 2;beggar 1 2;beggar 1 1");
         Due.rows("fewest, then face, then first", Due.picks(x), 1, 2, 0, 1, 2, 0);
         x.tell(0, 0, 1);
@@ -36,7 +36,7 @@ public final class MorningTest {
     }
 
     private static void blind() {
-        BeggarsChoose x = Due.city("citizen 0 0 0 5;citizen 0 0 0 9;citizen 0 0 0 9;citizen 0 0 0 9;hides 1;"
+        Run x = Due.city("citizen 0 0 0 5;citizen 0 0 0 9;citizen 0 0 0 9;citizen 0 0 0 9;hides 1;"
                 + "beggar 1 3;beggar 1 3;beggar 1 3;beggar 1 3;beggar 1 3;beggar 1 3");
         Due.rows("blind", Due.picks(x), 0, 2, 3, 0, 2, 3);
         x.post(0, true);
@@ -46,7 +46,7 @@ public final class MorningTest {
     }
 
     private static void faithful() {
-        BeggarsChoose x = Due.city("citizen 0 0 9 5;citizen 0 0 9 9;beggar 9 4");
+        Run x = Due.city("citizen 0 0 9 5;citizen 0 0 9 9;beggar 9 4");
         Due.is("as faces", x.picks(0), 1);
         Due.is("last", x.beggarOf(0, 2), -1);
         Due.is("one morning", x.mornings(1), 0);
@@ -66,11 +66,11 @@ public final class MorningTest {
     }
 
     private static void keeping() {
-        BeggarsChoose x = Due.city("citizen 0 9 7 9;beggar 5 0;beggar 3 0;beggar 2 0;beggar 1 0");
+        Run x = Due.city("citizen 0 9 7 9;beggar 5 0;beggar 3 0;beggar 2 0;beggar 1 0");
         Due.is("those behind may be kept yet", x.kept(), 5);
         Due.is("picked", x.picked(0, 0), 15);
         Due.is("burden", x.picked(0, 1), 7);
-        BeggarsChoose y = Due.city("citizen 5 3 4 9;beggar 3 0;beggar 4 0;beggar 1 0;beggar 5 0");
+        Run y = Due.city("citizen 5 3 4 9;beggar 3 0;beggar 4 0;beggar 1 0;beggar 5 0");
         Due.is("empty keeps besides", y.kept(), 7);
         Due.is("burden has them", y.picked(0, 1), 8);
         y.tell(0, 3, 3);
@@ -81,7 +81,7 @@ public final class MorningTest {
     }
 
     private static void behind() {
-        BeggarsChoose x = Due.city("citizen 0 0 9 9;citizen 0 0 9 5;citizen 0 0 9 0;wear 1 1;wear 2 9;hides 2;"
+        Run x = Due.city("citizen 0 0 9 9;citizen 0 0 9 5;citizen 0 0 9 0;wear 1 1;wear 2 9;hides 2;"
                 + "beggar 7 0;beggar 3 0;beggar 9 0;post 2");
         Due.is("unkept", x.mornings(1), 1);
         Due.is("mornings", x.status(2), 1);
@@ -113,7 +113,7 @@ public final class MorningTest {
     }
 
     private static void ahead() {
-        BeggarsChoose x = Due.city("citizen 0 0 9 10;citizen 4 0 3 9;beggar 5 0;beggar 4 0");
+        Run x = Due.city("citizen 0 0 9 10;citizen 4 0 3 9;beggar 5 0;beggar 4 0");
         Due.is("wear in none", x.wear(0, 0), 0);
         Due.is("wear in one", x.wear(0, 1), 9);
         Due.is("none unkept", x.unkept(1, 0), 0);
@@ -130,7 +130,7 @@ public final class MorningTest {
     }
 
     private static void refusals() {
-        BeggarsChoose x = Due.city("citizen 0 0 9 10;beggar 1 0");
+        Run x = Due.city("citizen 0 0 9 10;beggar 1 0");
         Due.is("picks(1)", x.picks(1), -11);
         Due.is("picks(-1)", x.picks(-1), -11);
         Due.is("picked(1, 2)", x.picked(1, 2), -1);

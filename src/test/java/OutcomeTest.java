@@ -13,7 +13,7 @@ public final class OutcomeTest {
     }
 
     private static void parting() {
-        BeggarsChoose x = Due.city("citizen 0 0 9 0;citizen 0 0 4 0;citizen 0 0 99 0;hides 2;beggar 5 0;beggar 9 0;beggar 4 0;post 1");
+        Run x = Due.city("citizen 0 0 9 0;citizen 0 0 4 0;citizen 0 0 99 0;hides 2;beggar 5 0;beggar 9 0;beggar 4 0;post 1");
         Due.is("how much", x.parting(-1), 5);
         Due.is("whom the first gets", x.parting(0), 0);
         Due.is("whom the second of those who come gets", x.parting(1), 1);
@@ -26,7 +26,7 @@ public final class OutcomeTest {
         Due.is("it can't be", x.parting(0), -1);
         Due.is("no such, also where it can't be", x.parting(2), -15);
         Due.is("refusals -5", x.status(15), 3);
-        BeggarsChoose y = Due.city("citizen 0 0 9 0;citizen 0 0 9 0;beggar 1 0;beggar 1 0;beggar 4 0;beggar 2 0");
+        Run y = Due.city("citizen 0 0 9 0;citizen 0 0 9 0;beggar 1 0;beggar 1 0;beggar 4 0;beggar 2 0");
         Due.is("how much", y.parting(-1), 4);
         Due.rows("the first by rows", gets(y, 4), 0, 0, 1, 0);
         Due.is("none come", Due.city("citizen 0 0 9 0;hides 0").parting(-1), 0);
@@ -34,7 +34,7 @@ public final class OutcomeTest {
         Due.is("nobody to go to", Due.city("beggar 1 0").parting(-1), -1);
     }
 
-    private static long[] gets(BeggarsChoose x, int n) {
+    private static long[] gets(Run x, int n) {
         long[] gets = new long[n];
         for (int i = 0; i < n; i++) {
             gets[i] = x.parting(i);
@@ -43,7 +43,7 @@ public final class OutcomeTest {
     }
 
     private static void rests() {
-        BeggarsChoose x = Due.city("citizen 0 0 99 0;citizen 0 0 8 0;citizen 0 0 6 0;hides 0;beggar 9 0;beggar 9 0;beggar 1 0;beggar 2 0;post 3");
+        Run x = Due.city("citizen 0 0 99 0;citizen 0 0 8 0;citizen 0 0 6 0;hides 0;beggar 9 0;beggar 9 0;beggar 1 0;beggar 2 0;post 3");
         Due.is("rounds", x.rests(-1), 1);
         // from 8 by 3: 2 each; the first goes to 6, the second stays with 4, the third has 1 anyhow
         Due.is("the first", x.rests(0), 2);
@@ -64,7 +64,7 @@ public final class OutcomeTest {
     }
 
     private static void shun() {
-        BeggarsChoose x = Due.city("citizen 0 0 9 10;citizen 0 0 9 7;beggar 1 0");
+        Run x = Due.city("citizen 0 0 9 10;citizen 0 0 9 7;beggar 1 0");
         Due.is("greatest heart unpicked", x.shun(1, 0), 10);
         Due.is("least heart picked", x.shun(1, 1), 11);
         Due.is("the first of several", x.shun(0, 1), 7);
@@ -84,7 +84,7 @@ public final class OutcomeTest {
     }
 
     private static void rules() {
-        BeggarsChoose x = Due.city("citizen 0 0 9 5;citizen 0 0 9 9;citizen 0 0 9 7;beggar 1 0;beggar 1 0;beggar 1 1");
+        Run x = Due.city("citizen 0 0 9 5;citizen 0 0 9 9;citizen 0 0 9 7;beggar 1 0;beggar 1 0;beggar 1 1");
         Due.is("rules to 0", x.rules(1, 0), 2);
         Due.is("rules to 1", x.rules(1, 1), 1 + 8 + 16);
         Due.is("rules to 2", x.rules(1, 2), 4);
@@ -101,7 +101,7 @@ public final class OutcomeTest {
     }
 
     private static void hideAndLose() {
-        BeggarsChoose x = Due.city("citizen 0 0 9 5;citizen 0 0 4 9;citizen 0 0 9 9;beggar 4 0;beggar 4 2;beggar 5 0");
+        Run x = Due.city("citizen 0 0 9 5;citizen 0 0 4 9;citizen 0 0 9 9;beggar 4 0;beggar 4 2;beggar 5 0");
         Due.rows("picks", Due.picks(x), 1, 2, 1);
         Due.is("the first of several", x.hide(), 1);
         x.tell(1, 3, 3);
@@ -120,7 +120,7 @@ public final class OutcomeTest {
     }
 
     private static void best() {
-        BeggarsChoose x = Due.city("citizen 0 0 6 5;beggar 6 0;beggar 3 0;beggar 3 0");
+        Run x = Due.city("citizen 0 0 6 5;beggar 6 0;beggar 3 0;beggar 3 0");
         Due.is("the one in the way", x.best(), 0);
         x.tell(0, 3, 0);
         Due.is("the first of several", x.best(), 0);
@@ -133,7 +133,7 @@ public final class OutcomeTest {
     }
 
     private static void judge() {
-        BeggarsChoose x = Due.city("citizen 0 0 6 5;citizen 0 0 6 9;beggar 6 0;beggar 3 0;beggar 3 1;post 0");
+        Run x = Due.city("citizen 0 0 6 5;citizen 0 0 6 9;beggar 6 0;beggar 3 0;beggar 3 1;post 0");
         x.row(0, 3, 45);
         x.set(0, 0, 1L + (1L << 33));
         Due.is("right, but 0 is told behind", x.judge(0, 3), 2);
@@ -156,7 +156,7 @@ public final class OutcomeTest {
     }
 
     private static void judgeRefused() {
-        BeggarsChoose x = Due.city("citizen 0 0 6 5");
+        Run x = Due.city("citizen 0 0 6 5");
         x.row(0, 0, 45);
         x.show(1, 0);
         Due.is("no shelf", x.judge(8, -1), -11);

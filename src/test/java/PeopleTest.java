@@ -10,7 +10,7 @@ public final class PeopleTest {
     }
 
     private static void citizens() {
-        BeggarsChoose x = new BeggarsChoose();
+        Run x = new Run();
         Due.is("kind 7 ahead of wrong", x.citizen(7, -1, 0, 0), -1);
         Due.is("kind -1", x.citizen(-1, 0, 0, 0), -1);
         int[][] wrong = {{-1, 0, 0}, {10, 0, 0}, {0, -1, 0}, {0, 100, 0}, {0, 0, -1}, {0, 0, 21}};
@@ -41,7 +41,7 @@ public final class PeopleTest {
     }
 
     private static void beggars() {
-        BeggarsChoose x = new BeggarsChoose();
+        Run x = new Run();
         int[][] wrong = {{0, 0}, {10, 0}, {1, -1}, {1, 5}};
         for (int[] w : wrong) {
             Due.is("a wrong number", x.beggar(w[0], w[1]), -6);
@@ -67,7 +67,7 @@ public final class PeopleTest {
     }
 
     private static void tell() {
-        BeggarsChoose x = new BeggarsChoose();
+        Run x = new Run();
         x.citizen(0, 1, 2, 3);
         int[] of = {6, 4, 3, 2};
         int[] most = {1, 99, 20, 99};
@@ -89,7 +89,7 @@ public final class PeopleTest {
     }
 
     private static void posts() {
-        BeggarsChoose x = new BeggarsChoose();
+        Run x = new Run();
         Due.is("no such beggar", x.post(0, true), -1);
         x.beggar(1, 0);
         Due.is("post", x.post(0, true), 0);
@@ -116,13 +116,13 @@ public final class PeopleTest {
             {5, 9, 0, 15, 0, 16}, {5, 9, 1, 15, 0, 15}, {5, 9, 0, 0, 99, 0}
         };
         for (int[] d : due) {
-            BeggarsChoose x = new BeggarsChoose();
+            Run x = new Run();
             x.citizen(d[0], d[1], d[2], d[3]);
             x.tell(0, 1, d[4]);
             Due.is("face of kind " + d[0] + " heart " + d[3] + " wear " + d[4], x.citizenOf(0, 7), d[5]);
         }
         // passed mornings raise the face of the anxious, to 9; the face ends at 30
-        BeggarsChoose x = Due.city("citizen 4 0 0 20;citizen 5 0 0 20;citizen 0 0 0 20;citizen 5 0 1 3");
+        Run x = Due.city("citizen 4 0 0 20;citizen 5 0 0 20;citizen 0 0 0 20;citizen 5 0 1 3");
         x.mornings(4);
         Due.is("anxious", x.citizenOf(0, 7), 24);
         Due.is("empty", x.citizenOf(1, 7), 25);

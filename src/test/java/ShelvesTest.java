@@ -12,7 +12,7 @@ public final class ShelvesTest {
     }
 
     private static void newObject() {
-        BeggarsChoose x = new BeggarsChoose();
+        Run x = new Run();
         for (int what = 0; what <= 6; what++) {
             Due.is("new status(" + what + ")", x.status(what), 0);
         }
@@ -30,7 +30,7 @@ public final class ShelvesTest {
     }
 
     private static void row() {
-        BeggarsChoose x = new BeggarsChoose();
+        Run x = new Run();
         Due.is("row(-1, 9, -1)", x.row(-1, 9, -1), -1);
         Due.is("row(8, 0, 0)", x.row(8, 0, 0), -1);
         Due.is("row(0, 9, -1)", x.row(0, 9, -1), -4);
@@ -53,7 +53,7 @@ public final class ShelvesTest {
     }
 
     private static void set() {
-        BeggarsChoose x = new BeggarsChoose();
+        Run x = new Run();
         x.citizen(0, 0, 0, 0);
         Due.is("set(8, ..)", x.set(8, 0, 1L), -1);
         Due.is("set of nothing", x.set(0, -1, 1L), -3);
@@ -83,7 +83,7 @@ public final class ShelvesTest {
     }
 
     private static void copy() {
-        BeggarsChoose x = new BeggarsChoose();
+        Run x = new Run();
         x.row(0, 2, 6);
         for (int i = 0; i < 6; i++) {
             x.set(0, i, i + 1);
@@ -107,7 +107,7 @@ public final class ShelvesTest {
     }
 
     private static void copyRefused() {
-        BeggarsChoose x = new BeggarsChoose();
+        Run x = new Run();
         x.citizen(0, 0, 0, 0);
         x.show(0, 0);
         x.row(1, 0, 2);
@@ -124,7 +124,7 @@ public final class ShelvesTest {
     }
 
     private static void show() {
-        BeggarsChoose x = new BeggarsChoose();
+        Run x = new Run();
         Due.is("show(0, 0) of none", x.show(0, 0), -1);
         Due.is("show(8, -1)", x.show(8, -1), -1);
         Due.is("show(0, -2)", x.show(0, -2), -1);
@@ -147,10 +147,10 @@ public final class ShelvesTest {
     }
 
     private static void says() {
-        BeggarsChoose x = new BeggarsChoose();
+        Run x = new Run();
         int[] above = {-1, 0, 0, 2, 0, 4, 3};
         for (int kind = 0; kind < 7; kind++) {
-            BeggarsChoose y = new BeggarsChoose();
+            Run y = new Run();
             y.citizen(kind, 7, 5, 15);
             y.tell(0, 1, 50);
             y.mornings(3);
@@ -174,7 +174,7 @@ public final class ShelvesTest {
         Due.rows("refusals", refusals(x), 3, 1, 1, 0, 0, 0, 0);
     }
 
-    private static long[] elements(BeggarsChoose x, int s, int n) {
+    private static long[] elements(Run x, int s, int n) {
         long[] elements = new long[n];
         for (int i = 0; i < n; i++) {
             elements[i] = x.element(s, i);
@@ -182,7 +182,7 @@ public final class ShelvesTest {
         return elements;
     }
 
-    private static long[] refusals(BeggarsChoose x) {
+    private static long[] refusals(Run x) {
         long[] refusals = new long[7];
         for (int i = 0; i < 7; i++) {
             refusals[i] = x.status(11 + i);

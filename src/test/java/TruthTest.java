@@ -10,14 +10,14 @@ public final class TruthTest {
     }
 
     private static void winters() {
-        BeggarsChoose x = Due.city("citizen 0 0 9 5;citizen 0 0 9 7;citizen 0 0 9 9;wear 1 99;wear 2 45;hides 0;beggar 9 0;beggar 9 2");
+        Run x = Due.city("citizen 0 0 9 5;citizen 0 0 9 7;citizen 0 0 9 9;wear 1 99;wear 2 45;hides 0;beggar 9 0;beggar 9 2");
         Due.is("seed(-7)", x.seed(-7), 1);
         Due.is("winters(0)", x.winters(0), -6);
         Due.is("winters(61)", x.winters(61), -6);
         Due.is("no draw", x.status(7), -7);
         int seed = -7;
         int hungry = 0;
-        for (int winter = 0; winter < 20; winter++) {
+        for (int winter = 0; winter < 4; winter++) {
             x.image();
             boolean[] hides = new boolean[3];
             for (int c = 0; c < 3; c++) {
@@ -37,19 +37,21 @@ public final class TruthTest {
             hungry += got;
         }
         Due.is("somebody went hungry", hungry > 0 ? 1 : 0, 1);
-        Due.is("mornings", x.status(2), 20);
-        BeggarsChoose y = Due.city("citizen 0 0 0 5;beggar 1 0;beggar 1 1");
+        Due.is("mornings", x.status(2), 4);
+        Run y = Due.city("citizen 0 0 0 5;beggar 1 0;beggar 1 1");
         Due.is("together", y.winters(60), 120);
     }
 
-    private static long[] state(BeggarsChoose x) {
+    private static long[] state(Run x) {
         long[] state = new long[64];
         int at = 0;
+        int citizens = x.status(0);
+        int beggars = x.status(1);
         for (int i = 0; i < 6; i++) {
-            for (int what = 0; what < 7 && i < x.status(0); what++) {
+            for (int what = 0; what < 7 && i < citizens; what++) {
                 state[at++] = x.citizenOf(i, what);
             }
-            for (int what = 0; what < 5 && i < x.status(1); what++) {
+            for (int what = 0; what < 5 && i < beggars; what++) {
                 state[at++] = x.beggarOf(i, what);
             }
         }
@@ -73,7 +75,7 @@ public final class TruthTest {
     }
 
     private static void moves(int kind, int looks, int gives, int shuts, int[] look, int[] give, int[] shut) {
-        BeggarsChoose x = new BeggarsChoose();
+        Run x = new Run();
         x.citizen(0, 0, 0, 0);
         x.citizen(kind, 3, 0, 0);
         move(x, kind, 0, looks, look);
@@ -81,7 +83,7 @@ public final class TruthTest {
         move(x, kind, 2, shuts, shut);
     }
 
-    private static void move(BeggarsChoose x, int kind, int move, int want, int[] trace) {
+    private static void move(Run x, int kind, int move, int want, int[] trace) {
         Due.is("act of kind " + kind + " move " + move, x.act(1, move, 10), want);
         Due.is("bodies", x.status(8), trace.length);
         for (int i = 0; i < trace.length; i++) {
@@ -92,7 +94,7 @@ public final class TruthTest {
     }
 
     private static void noAct() {
-        BeggarsChoose x = new BeggarsChoose();
+        Run x = new Run();
         x.citizen(2, 3, 0, 0);
         Due.is("wraps", x.act(0, 0, Integer.MAX_VALUE), Integer.MAX_VALUE * 3);
         Due.is("trace", x.trace(0), 30);
@@ -111,7 +113,7 @@ public final class TruthTest {
     }
 
     private static void image() {
-        BeggarsChoose x = new BeggarsChoose();
+        Run x = new Run();
         Due.is("no image", x.restore(), -6);
         x.citizen(1, 2, 3, 4);
         x.beggar(5, 4);
@@ -157,7 +159,7 @@ public final class TruthTest {
     }
 
     private static void status() {
-        BeggarsChoose x = Due.city("citizen 0 0 9 9;citizen 0 0 9 0;citizen 0 0 9 0;wear 0 40;wear 2 3;hides 2;hides 1;"
+        Run x = Due.city("citizen 0 0 9 9;citizen 0 0 9 0;citizen 0 0 9 0;wear 0 40;wear 2 3;hides 2;hides 1;"
                 + "beggar 9 0;beggar 8 0;beggar 7 0;beggar 6 0;post 3");
         x.mornings(1);
         x.tell(0, 3, 0);
