@@ -946,11 +946,12 @@ public final class BeggarsChoose {
 
         private Citizen chosenBy(Beggar b) {
             switch (b.rule) {
+                case BY_FACES: return greatestFace();
                 case BY_ANGER: return leastFace();
                 case BY_FEWEST: return fewestPicked();
                 case BLIND: return openAt(blindPlace(b, countOpen()));
                 case FAITHFUL: return canStay(b) ? citizenAt(b.last) : greatestFace();
-                default: return greatestFace();
+                default: return null;
             }
         }
 
@@ -1293,7 +1294,8 @@ public final class BeggarsChoose {
                 case BYTES: elements[i] = (byte) v; break;
                 case SHORTS: elements[i] = (short) v; break;
                 case INTS: elements[i] = (int) v; break;
-                default: elements[i] = v; break;
+                case LONGS: elements[i] = v; break;
+                default: break;
             }
         }
 

@@ -7,7 +7,8 @@ import java.util.TreeSet;
 
 /** The tests of the sentences that name an edge: each under its promises and its words, which must stand in the document. */
 final class Edge {
-    static final int PROMISES = 37;
+    private static final int PROMISES = 37;
+    private static final int MOST_TRACED = 20;
     private static final Path DOCUMENT = Path.of("../shared/DOC.md");
     private static final TreeSet<Integer> PROMISES_NAMED = new TreeSet<>();
 
@@ -95,7 +96,7 @@ final class Edge {
         for (int s = 0; s < 8; s++) {
             see(seen, under, x, x.holds(s));
         }
-        for (int i = 0; i <= 20; i++) {
+        for (int i = 0; i <= MOST_TRACED; i++) {
             see(seen, under, x, x.trace(i));
         }
         int citizens = x.status(0);
@@ -123,9 +124,18 @@ final class Edge {
     static void faulty(Calls calls, Call call, int place) {
         Map<String, Long> due = seen(calls);
         count(due, 6);
-        due.put("fault()", (long) place);
-        due.put("image: fault()", (long) place);
+        put(due, "fault()", place);
         leaves(calls, call, -6, due);
+    }
+
+    /** No TRACE then; no refusal, and all else is as it was. */
+    static void untraced(Calls calls, Call call) {
+        Map<String, Long> due = seen(calls);
+        put(due, "status(8)", 0);
+        for (int i = 0; i <= MOST_TRACED; i++) {
+            put(due, "trace(" + i + ")", -1);
+        }
+        leaves(calls, call, 0, due);
     }
 
     /** A question: it is due to answer so and to change nothing. */
@@ -133,9 +143,25 @@ final class Edge {
         leaves(calls, call, answer, seen(calls));
     }
 
+    /** The call is due to answer so and to change nothing but what this one call sees, which is so then. */
+    static void changes(Calls calls, Call call, long answer, String seen, long then) {
+        Map<String, Long> due = seen(calls);
+        Due.is("it is seen: " + seen, due.containsKey(seen) ? 1 : 0, 1);
+        due.put(seen, then);
+        leaves(calls, call, answer, due);
+    }
+
     private static void count(Map<String, Long> due, int refusal) {
-        due.merge("status(" + (10 + refusal) + ")", 1L, Long::sum);
-        due.merge("image: status(" + (10 + refusal) + ")", 1L, Long::sum);
+        String count = "status(" + (10 + refusal) + ")";
+        put(due, count, due.getOrDefault(count, 0L) + 1);
+        Due.is("it is counted", due.containsKey("image: " + count) ? 1 : 0, 1);
+    }
+
+    /** What THE IMAGE doesn't have is seen behind restore() as well. */
+    private static void put(Map<String, Long> due, String key, long value) {
+        long more = value - due.getOrDefault(key, 0L);
+        due.put(key, value);
+        due.merge("image: " + key, more, Long::sum);
     }
 
     private static void leaves(Calls calls, Call call, long answer, Map<String, Long> due) {

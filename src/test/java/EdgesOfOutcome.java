@@ -516,6 +516,17 @@ final class EdgesOfOutcome {
     }
 
     private static void lose() {
+        Edge.of("26 28", "hide()`: HIDE; NONE.", () -> {
+            Run x = Due.city("citizen 0 0 1 5;beggar 1 0");
+            x.due(x.hide(), 0);
+            x.due(x.best(), 0);
+            x.tell(0, 3, 0);
+            x.due(x.hide(), -1);
+            x.due(x.best(), 0);
+            x.post(0, true);
+            x.due(x.hide(), -1);
+            x.due(x.best(), -1);
+        });
         Edge.of("27", "LOSE: how many more go unkept if one hides now (it may be fewer: below 0).", () -> {
             Run x = Due.city("citizen 0 0 9 5;citizen 0 0 9 4;beggar 4 0;beggar 5 0");
             x.due(x.lose(0), 0);

@@ -125,6 +125,16 @@ final class EdgesOfRefusals {
             stands(x -> x.set(5, 159, 1L), 1);
             Edge.refused(x -> x.row(0, 3, 0), x -> x.set(0, 0, 1L), -5);
         });
+        Edge.of("3", "Element i of the ROW becomes v: 1. -1; -2; -3; -5.", () -> {
+            Edge.changes(Scenes::full, x -> x.set(0, 0, 77L), 1, "element(0, 0)", 77);
+            Edge.changes(Scenes::full, x -> x.set(0, 4, 77L), 1, "element(0, 4)", 77);
+            Edge.changes(Scenes::full, x -> x.set(5, 159, -1L), 1, "element(5, 159)", -1);
+            Edge.changes(Scenes::full, x -> x.set(4, 0, Long.MIN_VALUE), 1, "element(4, 0)", Long.MIN_VALUE);
+            refused(x -> x.set(8, 0, 77L), -1);
+            refused(x -> x.set(2, 0, 77L), -2);
+            refused(x -> x.set(3, 0, 77L), -3);
+            refused(x -> x.set(0, 5, 77L), -5);
+        });
         Edge.of("3", ORDER, () -> {
             refused(x -> x.set(8, -1, 1L), -1);
             refused(x -> x.set(-1, MAX, 1L), -1);
@@ -270,6 +280,20 @@ final class EdgesOfRefusals {
             refused(x -> x.says(3, 0), -3);
             refused(x -> x.says(3, 6), -3);
         });
+        Edge.of("8", "a CITIZEN who isn't of the KIND wanted, or one under it.", () -> {
+            Edge.Calls hired = x -> {
+                x.citizen(3, 7, 0, 0);
+                x.citizen(2, 5, 0, 0);
+                x.citizen(6, 6, 0, 0);
+                x.show(0, 0);
+                x.show(1, 1);
+                x.show(2, 2);
+            };
+            // who is wanted, one above him, one under him
+            Edge.unchanged(hired, x -> x.says(0, 3), 7);
+            Edge.refused(hired, x -> x.says(1, 3), -2);
+            Edge.unchanged(hired, x -> x.says(2, 3), 6);
+        });
         Edge.of("8", ORDER, () -> {
             refused(x -> x.says(0, 7), -1);
             refused(x -> x.says(2, 7), -1);
@@ -298,6 +322,13 @@ final class EdgesOfRefusals {
             Edge.refused(Scenes::crowded, y -> y.citizen(0, 0, 0, 0), -7);
             Edge.refused(Scenes::crowded, y -> y.citizen(6, 9, 99, 20), -7);
         });
+        Edge.of("9", "A CITIZEN: the number. -1 KIND; -6; -7.", () -> {
+            stands(x -> x.citizen(0, 0, 0, 0), 4);
+            refused(x -> x.citizen(-1, 0, 0, 0), -1);
+            refused(x -> x.citizen(7, 0, 0, 0), -1);
+            refused(x -> x.citizen(0, -1, 0, 0), -6);
+            Edge.refused(Scenes::crowded, x -> x.citizen(0, 0, 0, 0), -7);
+        });
         Edge.of("9", ORDER, () -> {
             refused(x -> x.citizen(7, 10, 100, 21), -1);
             refused(x -> x.citizen(-1, 0, 0, -1), -1);
@@ -323,6 +354,11 @@ final class EdgesOfRefusals {
             Edge.refused(Scenes::crowded, y -> y.beggar(1, 0), -7);
             Edge.refused(Scenes::crowded, y -> y.beggar(9, 4), -7);
         });
+        Edge.of("10", "A BEGGAR: the number. -6; -7.", () -> {
+            stands(x -> x.beggar(1, 0), 4);
+            refused(x -> x.beggar(0, 0), -6);
+            Edge.refused(Scenes::crowded, x -> x.beggar(1, 0), -7);
+        });
         Edge.of("10", ORDER, () -> {
             Edge.refused(Scenes::crowded, x -> x.beggar(0, 0), -6);
             Edge.refused(Scenes::crowded, x -> x.beggar(10, 0), -6);
@@ -346,6 +382,14 @@ final class EdgesOfRefusals {
             outside(0, 3, (x, what) -> x.tell(1, what, 0), -6);
             outside(0, 3, (x, what) -> x.tell(1, what, 1), -6);
         });
+        Edge.of("11", "HIDES (what 0; v 1, 0), WEAR (1), HEART (2), MEANS (3) of a CITIZEN becomes v: what it was. -1; -6.", () -> {
+            // citizen 2's FACE is of no account here: 2 is hidden, and ANXIOUS with MEANS
+            Edge.changes(Scenes::full, x -> x.tell(2, 3, 99), 9, "citizenOf(2, 2)", 99);
+            Edge.changes(Scenes::full, x -> x.tell(2, 3, 0), 9, "citizenOf(2, 2)", 0);
+            refused(x -> x.tell(2, 3, 100), -6);
+            refused(x -> x.tell(2, 3, -1), -6);
+            refused(x -> x.tell(4, 3, 0), -1);
+        });
         Edge.of("11", ORDER, () -> {
             refused(x -> x.tell(4, 0, 2), -1);
             refused(x -> x.tell(-1, 4, 0), -1);
@@ -364,6 +408,37 @@ final class EdgesOfRefusals {
     }
 
     private static void ofPeople() {
+        Edge.of("13", "Of a CITIZEN: 0 KIND, 1 a, 2 MEANS, 3 HEART, 4 WEAR, 5 PASSED, 6 whether he HIDES (1, 0), 7 FACE.", () -> {
+            int[] due = {-5, 4, 7, 8, 16, 38, 1, 1, 14, -5};
+            Edge.Calls one = x -> {
+                x.citizen(4, 7, 8, 16);
+                x.tell(0, 1, 40);
+                x.mornings(1);
+                x.tell(0, 0, 1);
+            };
+            for (int what = -1; what <= 8; what++) {
+                Run x = Edge.after(one);
+                x.due(x.citizenOf(0, what), due[what + 1]);
+            }
+        });
+        Edge.of("14", "Of a BEGGAR: 0 NEED, 1 RULE, 2 LAST (NONE), 3 HUNGER, 4 whether he has a POST (1, 0).", () -> {
+            int[] first = {-15, 9, 4, -1, 2, 1, -15};
+            int[] then = {-15, 9, 4, 0, 3, 0, -15};
+            Edge.Calls one = x -> {
+                x.beggar(9, 4);
+                x.mornings(2);
+                x.post(0, true);
+                x.mornings(2);
+            };
+            for (int what = -1; what <= 5; what++) {
+                Run x = Edge.after(one);
+                x.due(x.beggarOf(0, what), first[what + 1]);
+                x.citizen(0, 0, 0, 0);
+                x.post(0, false);
+                x.mornings(1);
+                x.due(x.beggarOf(0, what), then[what + 1]);
+            }
+        });
         Edge.of("13", "-5: no such one, another what.", () -> {
             outside(0, 3, (x, c) -> x.citizenOf(c, 0), -5);
             outside(0, 7, (x, what) -> x.citizenOf(0, what), -5);
@@ -457,6 +532,11 @@ final class EdgesOfRefusals {
             Edge.refused(Scenes::empty, x -> x.wear(0, 0), -1);
         });
         Edge.of("20", WRONG, () -> outside(0, 40, (x, n) -> x.wear(0, n), -6));
+        Edge.of("20", "In n MORNINGS: WEAR of a CITIZEN. -1; -6.", () -> {
+            stands(x -> x.wear(3, 0), 1);
+            refused(x -> x.wear(4, 0), -1);
+            refused(x -> x.wear(3, 41), -6);
+        });
         Edge.of("20", ORDER, () -> {
             refused(x -> x.wear(4, 41), -1);
             refused(x -> x.wear(-1, -1), -1);
@@ -469,6 +549,14 @@ final class EdgesOfRefusals {
             outside(0, 40, (x, n) -> x.unkept(n, 0), -16);
             outside(0, 40, (x, n) -> x.unkept(n, 1), -16);
         });
+        Edge.of("21", "In n MORNINGS: how many were unkept (what 0), the first on which somebody is (1; NONE).", () -> {
+            refused(x -> x.unkept(1, -1), -15);
+            stands(x -> x.unkept(0, 0), 0);
+            stands(x -> x.unkept(0, 1), -1);
+            stands(x -> x.unkept(1, 0), 1);
+            stands(x -> x.unkept(1, 1), 1);
+            refused(x -> x.unkept(1, 2), -15);
+        });
         Edge.of("21", ORDER, () -> {
             refused(x -> x.unkept(41, 2), -15);
             refused(x -> x.unkept(-1, -1), -15);
@@ -476,6 +564,14 @@ final class EdgesOfRefusals {
     }
 
     private static void parting() {
+        Edge.of("22", "PARTING: how much (i NONE), whom the i-th gets; NONE: it can't be.", () -> {
+            refused(x -> x.parting(-2), -15);
+            stands(x -> x.parting(-1), 4);
+            stands(x -> x.parting(0), 1);
+            stands(x -> x.parting(1), 3);
+            stands(x -> x.parting(2), 3);
+            refused(x -> x.parting(3), -15);
+        });
         Edge.of("22", "-15 no such i (counted as -5; also where it can't be).", () -> {
             outside(-1, 2, (x, i) -> x.parting(i), -15);
             stands(x -> x.parting(0), 1);
@@ -645,6 +741,11 @@ final class EdgesOfRefusals {
             }
         });
         Edge.of("32", "SEED becomes v: what it was (nothing is refused).", () -> {
+            Run full = Edge.after(Scenes::full);
+            int was = full.status(7);
+            for (int v : new int[] {MIN, -1, 0, 1, MAX}) {
+                Edge.changes(Scenes::full, x -> x.seed(v), was, "status(7)", v);
+            }
             Run x = new Run();
             x.due(x.seed(MIN), 1);
             x.due(x.seed(-1), MIN);
@@ -657,14 +758,7 @@ final class EdgesOfRefusals {
         });
         Edge.of("33", "A MOVE of a CITIZEN with x. 0, and no TRACE then: no such CITIZEN, move.", () -> {
             for (int[] wrong : new int[][] {{-1, 0}, {4, 0}, {MIN, 2}, {MAX, 1}, {0, -1}, {0, 3}, {3, MIN}, {3, MAX}, {4, 3}}) {
-                Run x = Edge.after(Scenes::full);
-                x.due(x.trace(0), 12);
-                x.due(x.act(wrong[0], wrong[1], 5), 0);
-                x.due(x.trace(0), -1);
-                x.due(x.status(8), 0);
-                for (int what = 11; what <= 17; what++) {
-                    x.due(x.status(what), 1);
-                }
+                Edge.untraced(Scenes::full, x -> x.act(wrong[0], wrong[1], 5));
             }
             stands(x -> x.act(0, 0, 5), 5);
             stands(x -> x.act(3, 0, 5), 8);

@@ -282,32 +282,50 @@ final class EdgesOfTruth {
     }
 
     private static void wrappingSums() {
-        Edge.of("33", "MOVES of CITIZENS, with x (wrapping): 0 looks, 1 gives, 2 shuts; m the number, k its a.", () -> {
-            // 10: x + m
+        Edge.of("33", "CITIZEN: 10 looks: x + m.", () -> {
+            act(0, 9, 0, MAX - 6, MAX - 1);
             act(0, 9, 0, MAX - 5, MAX);
             act(0, 9, 0, MAX - 4, MIN);
             act(0, 9, 0, MAX, MIN + 4);
             act(0, 9, 0, MIN, MIN + 5);
             act(0, 9, 0, 0, 5);
-            // 20: + k
+        });
+        Edge.of("33", "12 shuts: gives(x) ^ looks(x - k).", () -> {
+            act(0, 9, 2, MIN, (MIN + 5) * 2 ^ MAX - 8 + 5);
+            act(0, 9, 2, MIN + 8, (MIN + 13) * 2 ^ MIN + 4);
+            act(0, 9, 2, MIN + 9, (MIN + 14) * 2 ^ MIN + 5);
+            act(0, 0, 2, MIN, (MIN + 5) * 2 ^ MIN + 5);
+        });
+        Edge.of("33", "WORN: 20 gives: super.gives(x) + k.", () -> {
+            act(1, 0, 1, (1 << 30) - 6, MAX - 1);
             act(1, 1, 1, (1 << 30) - 6, MAX);
             act(1, 2, 1, (1 << 30) - 6, MIN);
             act(1, 9, 1, (1 << 30) - 6, MIN + 7);
-            // 40: x + 1, of which thrice are looked
-            act(3, 0, 0, MAX, (MIN + 5L) * 3);
+        });
+        Edge.of("33", "HIRED: 40 looks: super.looks(x + 1).", () -> {
             act(3, 0, 0, MAX - 1, (MAX + 5L) * 3);
-            // 51: what is x + m beyond the greatest comes back by m
-            act(4, 0, 0, MAX, MAX);
+            act(3, 0, 0, MAX, (MIN + 5L) * 3);
+            act(3, 0, 0, MIN, (MIN + 6L) * 3);
+        });
+        Edge.of("33", "51 looks: super.looks(x) - m.", () -> {
             act(4, 0, 0, MAX - 5, MAX - 5);
+            act(4, 0, 0, MAX - 4, MAX - 4);
+            act(4, 0, 0, MAX, MAX);
             act(4, 0, 0, MIN, MIN);
-            // 12: x - k
-            act(0, 9, 2, MIN, (MIN + 5) * 2 ^ MAX - 8 + 5);
-            act(0, 9, 2, MIN + 9, (MIN + 14) * 2 ^ MIN + 5);
-            act(0, 0, 2, MIN, (MIN + 5) * 2 ^ MIN + 5);
-            // 71: x - k, then 11 of 70 of 40 of 30 of 10
+        });
+        Edge.of("33", "71 gives: super.gives(x - k).", () -> {
+            // then 11 of 70 of 40 of 30 of 10
             act(6, 9, 1, MIN, (MAX - 8L + 1 + 5) * 3 * 2 * 2);
+            act(6, 9, 1, MIN + 8, (MAX + 1L + 5) * 3 * 2 * 2);
             act(6, 9, 1, MIN + 9, (MIN + 1L + 5) * 3 * 2 * 2);
             act(6, 0, 1, MIN, (MIN + 1L + 5) * 3 * 2 * 2);
+        });
+        Edge.of("33", "MOVES of CITIZENS, with x (wrapping): 0 looks, 1 gives, 2 shuts; m the number, k its a.", () -> {
+            act(0, 3, 0, 10, 15);
+            act(0, 3, 1, 10, 30);
+            act(0, 3, 2, 10, 30 ^ 12);
+            act(0, 3, -1, 10, 0);
+            act(0, 3, 3, 10, 0);
         });
     }
 
