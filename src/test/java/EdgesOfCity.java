@@ -112,7 +112,8 @@ final class EdgesOfCity {
                 }
             }
         });
-        Edge.of("13", "WEAR (0 to 99; 0 at first), PASSED (mornings one after the other on which nobody picked him, 0 to 9; 0 at first), "
+        Edge.of("13", "WEAR (0 to 99; 0 at first), PASSED (mornings one after the other on which nobody picked him, 0 "
+                + "to 9; 0 at first), "
                 + "HIDES or not (not at first).", () -> {
             Run x = new Run();
             x.citizen(0, 0, 0, 0);
@@ -168,7 +169,8 @@ final class EdgesOfCity {
                 }
             }
         });
-        Edge.of("14", "LAST (whom he picked last; none at first), HUNGER (mornings unkept, 0 to 99; 0 at first), a POST or not (not at first)", () -> {
+        Edge.of("14", "LAST (whom he picked last; none at first), HUNGER (mornings unkept, 0 to 99; 0 at first), a "
+                + "POST or not (not at first)", () -> {
             Run x = new Run();
             x.beggar(1, 0);
             x.due(x.beggarOf(0, 2), -1);

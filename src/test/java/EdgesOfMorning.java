@@ -126,7 +126,8 @@ final class EdgesOfMorning {
     }
 
     private static void blind() {
-        Edge.of("17", "BLIND: of those who don't hide, by numbers, the one whose place among them is his own number and MORNINGS, "
+        Edge.of("17", "BLIND: of those who don't hide, by numbers, the one whose place among them is his own number "
+                + "and MORNINGS, "
                 + "modulo how many they are.", () -> {
             Run x = Due.city("citizen 0 0 9 5;citizen 0 0 9 5;citizen 0 0 9 5;citizen 0 0 9 5;hides 1;"
                     + "beggar 1 3;beggar 1 3;beggar 1 3;beggar 1 3;beggar 1 3;beggar 1 3");
@@ -145,7 +146,8 @@ final class EdgesOfMorning {
             x.tell(2, 0, 1);
             x.tell(3, 0, 1);
             picks(x, -1, 1, 1, 1, 1, 1);
-            Run late = Due.city("citizen 0 0 0 5;citizen 0 0 0 5;citizen 0 0 0 5;citizen 0 0 0 5;citizen 0 0 0 5;beggar 1 3;beggar 1 3");
+            Run late = Due.city("citizen 0 0 0 5;citizen 0 0 0 5;citizen 0 0 0 5;citizen 0 0 0 5;citizen 0 0 0 5;"
+                    + "beggar 1 3;beggar 1 3");
             for (int i = 0; i < 101; i++) {
                 late.mornings(59);
             }
@@ -185,7 +187,8 @@ final class EdgesOfMorning {
     }
 
     private static void keeping() {
-        Edge.of("18 19", "a picked one keeps those who picked him as they come, if his MEANS are what he keeps already and this one's "
+        Edge.of("18 19", "a picked one keeps those who picked him as they come, if his MEANS are what he keeps "
+                + "already and this one's "
                 + "NEED together at least; else that one is TURNED away (those behind may be kept yet).", () -> {
             int[] means = {0, 3, 4, 5, 6, 7, 8, 9, 10, 11, 12, 99};
             // needs 4, 5, 1, 2: each is kept if there is as much left
@@ -261,7 +264,8 @@ final class EdgesOfMorning {
                 x.due(x.kept(), kind == 5 ? 1 : 0);
             }
         });
-        Edge.of("18 19 30", "EMPTY keeps all whose NEED is a at most whatever his MEANS are, and their NEEDS are no part of what MEANS "
+        Edge.of("18 19 30", "EMPTY keeps all whose NEED is a at most whatever his MEANS are, and their NEEDS are no "
+                + "part of what MEANS "
                 + "are compared with; BURDEN and WEAR have their NEEDS, as of all that he keeps.", () -> {
             // 3 is besides, 4 counts, 3 is besides, 5 counts
             Run x = Due.city("citizen 5 3 9 5;beggar 3 0;beggar 4 0;beggar 3 0;beggar 5 0");

@@ -65,8 +65,10 @@ final class EdgesOfOutcome {
     }
 
     private static void ahead() {
-        Edge.of("20", "In n MORNINGS (0 to 40) from now on, all by their RULES, none hiding otherwise than now: WEAR of a CITIZEN then", () -> {
-            Run x = Due.city("citizen 0 0 0 0;citizen 0 0 9 20;citizen 0 0 1 20;hides 1;wear 0 50;wear 1 99;beggar 1 0;beggar 1 0;post 1");
+        Edge.of("20", "In n MORNINGS (0 to 40) from now on, all by their RULES, none hiding otherwise than now: WEAR "
+                + "of a CITIZEN then", () -> {
+            Run x = Due.city("citizen 0 0 0 0;citizen 0 0 9 20;citizen 0 0 1 20;hides 1;wear 0 50;wear 1 99;"
+                    + "beggar 1 0;beggar 1 0;post 1");
             int[] n = {0, 1, 39, 40};
             int[] passedOver = {50, 48, 0, 0};
             int[] hidden = {99, 97, 21, 19};
@@ -143,7 +145,8 @@ final class EdgesOfOutcome {
     }
 
     private static void parting() {
-        Edge.of("22", "PARTING: BEGGARS without POST each to one who doesn't hide, so that of nobody the NEEDS together are above his MEANS", () -> {
+        Edge.of("22", "PARTING: BEGGARS without POST each to one who doesn't hide, so that of nobody the NEEDS "
+                + "together are above his MEANS", () -> {
             Run x = Due.city("citizen 0 0 9 0;citizen 0 0 9 0;beggar 4 0;beggar 5 0");
             x.due(x.parting(-1), 5);
             x.tell(1, 0, 1);
@@ -276,7 +279,8 @@ final class EdgesOfOutcome {
     }
 
     private static void has() {
-        Edge.of("23", "EACH FOR HIMSELF: a BEGGAR has of the CITIZEN he is at MEANS by how many are there (cut), his NEED at most.", () -> {
+        Edge.of("23", "EACH FOR HIMSELF: a BEGGAR has of the CITIZEN he is at MEANS by how many are there (cut), his "
+                + "NEED at most.", () -> {
             // two at 7 have 3 each, at 8 have 4 each; alone at the other he has all of it
             goes(7, 3, 2, 9, 0, 0);
             goes(7, 4, 2, 9, 1, 1);
@@ -329,7 +333,8 @@ final class EdgesOfOutcome {
             hidden.due(hidden.rests(1), 2);
             hidden.tell(0, 0, 0);
             hidden.due(hidden.rests(0), 0);
-            Run x = Due.city("citizen 0 0 0 0;citizen 0 0 6 0;citizen 0 0 9 0;hides 0;hides 2;beggar 3 0;beggar 3 0;beggar 3 0;post 1");
+            Run x = Due.city("citizen 0 0 0 0;citizen 0 0 6 0;citizen 0 0 9 0;hides 0;hides 2;beggar 3 0;beggar 3 0;"
+                    + "beggar 3 0;post 1");
             x.due(x.rests(0), 1);
             x.due(x.rests(1), -11);
             x.due(x.rests(2), 1);
@@ -404,7 +409,8 @@ final class EdgesOfOutcome {
     }
 
     private static void shun() {
-        Edge.of("24", "SHUN of a CITIZEN: the greatest HEART (0 to 20) by which nobody picks him (all else as it is); NONE.", () -> {
+        Edge.of("24", "SHUN of a CITIZEN: the greatest HEART (0 to 20) by which nobody picks him (all else as it is); "
+                + "NONE.", () -> {
             int[] hearts = {0, 1, 19, 20};
             for (int heart : hearts) {
                 Run ahead = pair(0, heart, 0);
@@ -465,7 +471,8 @@ final class EdgesOfOutcome {
             x.tell(0, 0, 1);
             x.due(x.rules(0, 0), 0);
             // by FACES and faithfully 1, in anger 0, by fewest 2, blind 3
-            Run y = Due.city("citizen 0 0 9 5;citizen 0 0 9 9;citizen 0 0 9 8;citizen 0 0 9 7;beggar 1 0;beggar 1 1;beggar 1 1;beggar 1 1");
+            Run y = Due.city("citizen 0 0 9 5;citizen 0 0 9 9;citizen 0 0 9 8;citizen 0 0 9 7;beggar 1 0;beggar 1 1;"
+                    + "beggar 1 1;beggar 1 1");
             y.due(y.rules(3, 0), 2);
             y.due(y.rules(3, 1), 17);
             y.due(y.rules(3, 2), 4);
@@ -481,7 +488,8 @@ final class EdgesOfOutcome {
     }
 
     private static void hide() {
-        Edge.of("26", "HIDE: whom of those who don't hide it would ease most to hide now: who has the greatest BURDEN (alone hidden he has none), "
+        Edge.of("26", "HIDE: whom of those who don't hide it would ease most to hide now: who has the greatest BURDEN "
+                + "(alone hidden he has none), "
                 + "of several the first; NONE: none has any.", () -> {
             Run x = Due.city("citizen 0 0 9 5;citizen 0 0 9 9;beggar 4 1;beggar 4 0");
             x.due(x.hide(), 0);
@@ -547,7 +555,8 @@ final class EdgesOfOutcome {
             x.due(x.lose(1), -106);
             x.tell(0, 3, 9);
             x.due(x.lose(0), 2);
-            Run six = Due.city("citizen 0 0 54 5;citizen 0 0 0 5;beggar 9 0;beggar 9 0;beggar 9 0;beggar 9 0;beggar 9 0;beggar 9 0");
+            Run six = Due.city("citizen 0 0 54 5;citizen 0 0 0 5;beggar 9 0;beggar 9 0;beggar 9 0;beggar 9 0;"
+                    + "beggar 9 0;beggar 9 0");
             six.due(six.lose(0), 6);
             six.tell(0, 3, 0);
             six.tell(1, 3, 54);
@@ -556,7 +565,8 @@ final class EdgesOfOutcome {
     }
 
     private static void post() {
-        Edge.of("28", "POST: the BEGGAR without POST by whose POST fewest of the others go unkept, of several the first; NONE: all have.", () -> {
+        Edge.of("28", "POST: the BEGGAR without POST by whose POST fewest of the others go unkept, of several the "
+                + "first; NONE: all have.", () -> {
             Run x = Due.city("citizen 0 0 6 5;beggar 3 0;beggar 6 0;beggar 3 0;beggar 6 0");
             // by 0's post 6 is kept, and 3 and 6 go unkept; by 1's, 3 and 3 are kept; by 2's 3; by 3's 3 and 3
             x.due(x.best(), 1);
@@ -590,7 +600,8 @@ final class EdgesOfOutcome {
     }
 
     private static void judge() {
-        Edge.of("29", "A told MORNING: a ROW of whom they pick, one behind the other as in THE FILE (NONE: nobody): WRONG: the first that isn't so", () -> {
+        Edge.of("29", "A told MORNING: a ROW of whom they pick, one behind the other as in THE FILE (NONE: nobody): "
+                + "WRONG: the first that isn't so", () -> {
             Run x = fileOfThree();
             x.due(x.judge(0, 3), -1);
             for (int i = 0; i < 3; i++) {
@@ -624,7 +635,8 @@ final class EdgesOfOutcome {
     }
 
     private static void judgeCount() {
-        Edge.of("29", "(as many elements as come in THE FILE; more is WRONG at the first too many, fewer is WRONG at n); NONE.", () -> {
+        Edge.of("29", "(as many elements as come in THE FILE; more is WRONG at the first too many, fewer is WRONG at "
+                + "n); NONE.", () -> {
             Run x = fileOfThree();
             int[] due = {0, 1, 2, -1, 3, 3};
             for (int n = 0; n < due.length; n++) {

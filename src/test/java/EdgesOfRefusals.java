@@ -382,7 +382,8 @@ final class EdgesOfRefusals {
             outside(0, 3, (x, what) -> x.tell(1, what, 0), -6);
             outside(0, 3, (x, what) -> x.tell(1, what, 1), -6);
         });
-        Edge.of("11", "HIDES (what 0; v 1, 0), WEAR (1), HEART (2), MEANS (3) of a CITIZEN becomes v: what it was. -1; -6.", () -> {
+        Edge.of("11", "HIDES (what 0; v 1, 0), WEAR (1), HEART (2), MEANS (3) of a CITIZEN becomes v: what it was. "
+                + "-1; -6.", () -> {
             // citizen 2's FACE is of no account here: 2 is hidden, and ANXIOUS with MEANS
             Edge.changes(Scenes::full, x -> x.tell(2, 3, 99), 9, "citizenOf(2, 2)", 99);
             Edge.changes(Scenes::full, x -> x.tell(2, 3, 0), 9, "citizenOf(2, 2)", 0);
@@ -590,7 +591,8 @@ final class EdgesOfRefusals {
     }
 
     private static void rests() {
-        Edge.of("23", "EACH FOR HIMSELF: ROUNDS (beggar NONE), at whom one is; NONE. -11 also one with a POST (counted as -1).", () -> {
+        Edge.of("23", "EACH FOR HIMSELF: ROUNDS (beggar NONE), at whom one is; NONE. -11 also one with a POST "
+                + "(counted as -1).", () -> {
             outside(-1, 3, (x, b) -> x.rests(b), -11);
             refused(x -> x.rests(2), -11);
             Edge.refused(Scenes::empty, x -> x.rests(0), -11);

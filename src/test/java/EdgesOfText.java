@@ -310,7 +310,8 @@ final class EdgesOfText {
     }
 
     private static void longs() {
-        Edge.of("15 29", "Elements of a ROW of longs count by their lowest 32 bits, as ints, wherever a ROW tells something.", () -> {
+        Edge.of("15 29", "Elements of a ROW of longs count by their lowest 32 bits, as ints, wherever a ROW tells "
+                + "something.", () -> {
             long[] same = {1L << 32, -1L << 32, Long.MIN_VALUE, 1L << 63 | 1L << 40};
             long[] other = {1L << 31, 1L << 8, 1L << 16, 1};
             Run x = told("");

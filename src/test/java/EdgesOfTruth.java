@@ -235,7 +235,8 @@ final class EdgesOfTruth {
     }
 
     private static void copies() {
-        Edge.of("4", "Elements i, i + 1, .. of the ROW in SHELF p, n of them, come to elements j, j + 1, .. of that in q (as they were ahead): 1.", () -> {
+        Edge.of("4", "Elements i, i + 1, .. of the ROW in SHELF p, n of them, come to elements j, j + 1, .. of that "
+                + "in q (as they were ahead): 1.", () -> {
             Run x = counted(6);
             x.due(x.copy(0, 1, 0, 0, 0), 1);
             elements(x, 1, 0, 0, 0, 0, 0, 0);
@@ -367,7 +368,8 @@ final class EdgesOfTruth {
     }
 
     private static void bodies() {
-        Edge.of("33 34", "the body of the CITIZEN's KIND, or of the next KIND above that has one; super: from the KIND above the body's on.", () -> {
+        Edge.of("33 34", "the body of the CITIZEN's KIND, or of the next KIND above that has one; super: from the "
+                + "KIND above the body's on.", () -> {
             ran(0, 0, 10);
             ran(0, 1, 11, 10);
             ran(0, 2, 12, 11, 10, 10);
@@ -406,7 +408,8 @@ final class EdgesOfTruth {
 
     private static void trace() {
         // no act comes to more than 11 bodies, so that the 20 are never full
-        Edge.of("34 37", "THE TRACE: the numbers of the bodies that ran in the latest act(), in the order in which they began; the first 20 are kept.", () -> {
+        Edge.of("34 37", "THE TRACE: the numbers of the bodies that ran in the latest act(), in the order in which "
+                + "they began; the first 20 are kept.", () -> {
             Run x = fifth(6, 3);
             x.due(x.trace(0), -1);
             x.due(x.status(8), 0);
@@ -441,7 +444,8 @@ final class EdgesOfTruth {
     }
 
     private static void image() {
-        Edge.of("35", "THE IMAGE of all but SHELVES (and THE IMAGE, REFUSALS, the FAULT, THE TRACE) is taken: how many CITIZENS.", () -> {
+        Edge.of("35", "THE IMAGE of all but SHELVES (and THE IMAGE, REFUSALS, the FAULT, THE TRACE) is taken: how "
+                + "many CITIZENS.", () -> {
             Run x = new Run();
             x.due(x.image(), 0);
             for (int i = 1; i <= 6; i++) {
@@ -570,7 +574,8 @@ final class EdgesOfTruth {
     }
 
     private static void counts() {
-        Edge.of("37", "How many: 0 CITIZENS, 1 BEGGARS, 2 MORNINGS, 3 WEAR together, 4 HUNGER together, 5 who hide, 6 POSTS, 7 SEED", () -> {
+        Edge.of("37", "How many: 0 CITIZENS, 1 BEGGARS, 2 MORNINGS, 3 WEAR together, 4 HUNGER together, 5 who hide, 6 "
+                + "POSTS, 7 SEED", () -> {
             Run x = new Run();
             for (int what = 0; what <= 6; what++) {
                 x.due(x.status(what), 0);

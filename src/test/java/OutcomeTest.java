@@ -43,7 +43,8 @@ public final class OutcomeTest {
     }
 
     private static void rests() {
-        Run x = Due.city("citizen 0 0 99 0;citizen 0 0 8 0;citizen 0 0 6 0;hides 0;beggar 9 0;beggar 9 0;beggar 1 0;beggar 2 0;post 3");
+        Run x = Due.city("citizen 0 0 99 0;citizen 0 0 8 0;citizen 0 0 6 0;hides 0;beggar 9 0;beggar 9 0;beggar 1 0;"
+                + "beggar 2 0;post 3");
         Due.is("rounds", x.rests(-1), 1);
         // from 8 by 3: 2 each; the first goes to 6, the second stays with 4, the third has 1 anyhow
         Due.is("the first", x.rests(0), 2);
