@@ -83,7 +83,7 @@ public final class BeggarsChoose {
     private boolean isTaken;
     private final Shelf[] shelves = new Shelf[MOST_SHELVES];
     private final int[] refused = new int[REFUSALS + 1];
-    private final Reader reader = new Reader(trial);
+    private final Reader reader = new Reader();
     private final Play play = new Play();
 
     public BeggarsChoose() {
@@ -272,7 +272,7 @@ public final class BeggarsChoose {
             return refuse(0, NOBODY);
         }
         trial.become(now);
-        int items = reader.read(shelf);
+        int items = reader.read(shelf, trial);
         if (items == NONE) {
             return refuse(0, WRONG);
         }
@@ -1308,18 +1308,16 @@ public final class BeggarsChoose {
 
     /** Reads a city's text from a row of letters. */
     private static final class Reader {
-        private final City city;
         private final int[] signs = new int[MOST_ELEMENTS];
         private int length;
         private int place;
         private int fault = NONE;
 
-        private Reader(City told) {
-            city = told;
+        private Reader() {
         }
 
         /** How many items it told to the city; NONE: a fault, and the city is told a part only. */
-        private int read(Shelf row) {
+        private int read(Shelf row, City city) {
             length = row.length;
             for (int i = 0; i < signs.length; i++) {
                 signs[i] = row.getInt(i);
@@ -1327,7 +1325,7 @@ public final class BeggarsChoose {
             place = 0;
             fault = NONE;
             for (int items = 1; items <= MOST_ELEMENTS; items++) {
-                if (!readItem()) {
+                if (!readItem(city)) {
                     return NONE;
                 }
                 if (place >= length) {
@@ -1340,26 +1338,26 @@ public final class BeggarsChoose {
             return NONE;
         }
 
-        private boolean readItem() {
+        private boolean readItem(City city) {
             int start = place;
             int word = readWord();
             if (word == WORD_CITIZEN) {
-                return hasRoom(city.citizenCount, start) && readCitizen();
+                return hasRoom(city.citizenCount, start) && readCitizen(city);
             }
             if (word == WORD_BEGGAR) {
-                return hasRoom(city.beggarCount, start) && readBeggar();
+                return hasRoom(city.beggarCount, start) && readBeggar(city);
             }
             if (word == WORD_POST) {
-                return readPost();
+                return readPost(city);
             }
-            return word != NONE && readOfCitizen(word);
+            return word != NONE && readOfCitizen(city, word);
         }
 
         private boolean hasRoom(int count, int start) {
             return count < MOST_PEOPLE || failAt(start);
         }
 
-        private boolean readCitizen() {
+        private boolean readCitizen(City city) {
             int kind = readNumber(0, KINDS - 1);
             int a = kind == NONE ? NONE : readNumber(0, MOST_A);
             int means = a == NONE ? NONE : readNumber(0, MOST_MEANS);
@@ -1367,13 +1365,13 @@ public final class BeggarsChoose {
             return heart != NONE && city.addCitizen(kind, a, means, heart) != NONE;
         }
 
-        private boolean readBeggar() {
+        private boolean readBeggar(City city) {
             int need = readNumber(1, MOST_NEED);
             int rule = need == NONE ? NONE : readNumber(0, RULES - 1);
             return rule != NONE && city.addBeggar(need, rule) != NONE;
         }
 
-        private boolean readPost() {
+        private boolean readPost(City city) {
             Beggar b = city.beggarAt(readNumber(0, city.beggarCount - 1));
             if (b == null) {
                 return false;
@@ -1382,7 +1380,7 @@ public final class BeggarsChoose {
             return true;
         }
 
-        private boolean readOfCitizen(int word) {
+        private boolean readOfCitizen(City city, int word) {
             Citizen c = city.citizenAt(readNumber(0, city.citizenCount - 1));
             if (c == null) {
                 return false;

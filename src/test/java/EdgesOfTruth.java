@@ -11,6 +11,8 @@ final class EdgesOfTruth {
         draws();
         winters();
         shelves();
+        newRows();
+        said();
         rows();
         lowestBits();
         copies();
@@ -155,6 +157,54 @@ final class EdgesOfTruth {
                 x.due(x.element(s, 1), isThere ? 6 : 0);
                 x.due(x.row(s, 2, 1), isThere ? 1 : -1);
                 x.due(x.holds(s), isThere ? 102 : -1);
+            }
+        });
+    }
+
+    private static void newRows() {
+        Edge.of("2", "SHELF s holds a new ROW: 1.", () -> {
+            Run x = new Run();
+            for (int s = 0; s < 8; s++) {
+                x.due(x.row(s, 2, 3), 1);
+                x.set(s, 1, 10L + s);
+            }
+            // the same once more is a new one, and the others stay
+            x.due(x.row(4, 2, 3), 1);
+            for (int s = 0; s < 8; s++) {
+                x.due(x.element(s, 1), s == 4 ? 0 : 10 + s);
+            }
+            // so is one of another SORT, which doesn't bring back what an older one held
+            x.set(4, 2, 9L);
+            x.due(x.row(4, 3, 1), 1);
+            x.due(x.row(4, 2, 3), 1);
+            x.due(x.element(4, 2), 0);
+        });
+    }
+
+    private static void said() {
+        Edge.of("8", "What the CITIZEN in SHELF s, taken for one of a KIND, says: CITIZEN his FACE; WORN his WEAR; "
+                + "SOUR, HIRED, MEAN his a; ANXIOUS, EMPTY PASSED.", () -> {
+            // 15 less 3 or 7; the half of 12; 7 more; 12 and 2; less 3
+            int[] faces = {12, 8, 6, 13, 14, 14, 10};
+            // picked, he has WEAR 37 and isn't passed over
+            int[] facesThen = {12, 8, 6, 13, 12, 12, 10};
+            int[][] asked = {{0}, {0, 1}, {0, 2}, {0, 2, 3}, {0, 4}, {0, 4, 5}, {0, 2, 3, 6}};
+            for (int kind = 0; kind < 7; kind++) {
+                Run x = new Run();
+                x.citizen(kind, 7, 5, 15);
+                x.tell(0, 1, 40);
+                x.mornings(2);
+                x.show(4, 0);
+                int[] says = {faces[kind], 36, 7, 7, 2, 2, 7};
+                int[] then = {facesThen[kind], 37, 7, 7, 0, 0, 7};
+                for (int as : asked[kind]) {
+                    x.due(x.says(4, as), says[as]);
+                }
+                x.beggar(1, 0);
+                x.mornings(1);
+                for (int as : asked[kind]) {
+                    x.due(x.says(4, as), then[as]);
+                }
             }
         });
     }
