@@ -356,7 +356,7 @@ final class EdgesOfOutcome {
     }
 
     private static void rounds() {
-        // the most ROUNDS that any city was found to go, of many millions, are 4: 20 and NO REST can't be tried
+        // the most ROUNDS that a city was found to go, by draws and by climbing, are 5: 20 and NO REST can't be tried
         Edge.of("23", "till a ROUND in which nobody goes: how many ROUNDS went with a move (20 at most); at whom one is then; "
                 + "NONE: no REST in 20, all hide.", () -> {
             Run none = new Run();
@@ -381,6 +381,12 @@ final class EdgesOfOutcome {
             // 0 to 3, 1 to 2, 2 to 1, 3 to 1; then 2 to 2; then 1 to 3; then 0 to 4
             resting("citizen 0 0 0 0;citizen 0 0 3 0;citizen 0 0 6 0;citizen 0 0 13 0;citizen 0 0 7 0;"
                     + "beggar 9 0;beggar 5 0;beggar 3 0;beggar 1 0", 4, 4, 3, 2, 1);
+            // 0 to 2, 1 to 3, 2 to 2, 3 to 1, 4 to 2, 5 to 1; then 0 to 4, 3 to 2; then 2 to 3; then 1 to 4; then 0 to 5
+            Run full = Due.city("citizen 0 0 0 0;citizen 0 0 3 0;citizen 0 0 11 0;citizen 0 0 8 0;citizen 0 0 13 0;citizen 0 0 14 0");
+            for (int need : new int[] {9, 6, 4, 3, 2, 1}) {
+                full.beggar(need, 0);
+            }
+            resting(full, 5, 5, 4, 3, 2, 2, 1);
         });
         Edge.of("23", "EACH FOR HIMSELF: 20 ROUNDS with a move, and none in the next one, are 20.", () -> {
             // likewise of fewer: the ROUND in which nobody goes isn't counted
@@ -391,7 +397,10 @@ final class EdgesOfOutcome {
     }
 
     private static void resting(String text, int rounds, int... at) {
-        Run x = Due.city(text);
+        resting(Due.city(text), rounds, at);
+    }
+
+    private static void resting(Run x, int rounds, int... at) {
         x.due(x.rests(-1), rounds);
         for (int b = 0; b < at.length; b++) {
             x.due(x.rests(b), at[b]);
